@@ -143,7 +143,8 @@ public final class RulerWord {
         if (roundsLeft() < 1) {
             return NONE;
         }
-        playNext();
+        acts.keep(now);
+        now.play(council, planned);
         return now.gone;
     }
 
@@ -153,7 +154,8 @@ public final class RulerWord {
             return NONE;
         }
         for (int i = 0; i < left; i++) {
-            playNext();
+            acts.keep(now);
+            now.play(council, planned);
         }
         return left;
     }
@@ -315,7 +317,10 @@ public final class RulerWord {
     }
 
     public int broken() {
-        return isAsked(now.falses) ? search.least(council, now.starts, now.falses, council.phases) : NOT_ASKED;
+        if (!isAsked(now.falses)) {
+            return NOT_ASKED;
+        }
+        return search.look(council, now.starts, now.falses, council.phases, false);
     }
 
     public int brokenStarts(int what) {
@@ -373,7 +378,7 @@ public final class RulerWord {
             if (!isAsked(falses)) {
                 return NOT_ASKED;
             }
-            if (search.any(council, now.starts, falses, council.phases)) {
+            if (search.look(council, now.starts, falses, council.phases, true) != NONE) {
                 weakest = i;
             }
         }
@@ -411,7 +416,7 @@ public final class RulerWord {
             if (council.freeLetters(now.falses, phases) > MOST_FREE) {
                 return NONE;
             }
-            if (!search.any(council, now.starts, now.falses, phases)) {
+            if (search.look(council, now.starts, now.falses, phases, true) == NONE) {
                 return phases;
             }
         }
@@ -429,7 +434,6 @@ public final class RulerWord {
         if (what == 3) {
             return others.foretold();
         }
-        planned.byHand = false;
         playTrial(others, planned, seed);
         switch (what) {
             case 0:
@@ -588,12 +592,6 @@ public final class RulerWord {
         return convened ? council.allRounds() - now.gone : 0;
     }
 
-    private void playNext() {
-        acts.keep(now);
-        planned.byHand = true;
-        now.play(council, planned);
-    }
-
     private void playTrial(Council rules, Voice speaker, long from) {
         trial.begin(now.starts, now.falses, from);
         for (int i = 0; i < rules.allRounds(); i++) {
@@ -648,14 +646,14 @@ public final class RulerWord {
     private int countBrokenStarts(int falses) {
         int many = 0;
         for (int starts = 0; starts <= council.everybody(); starts++) {
-            many += search.any(council, starts, falses, council.phases) ? 1 : 0;
+            many += search.look(council, starts, falses, council.phases, true) != NONE ? 1 : 0;
         }
         return many;
     }
 
     private int leastBrokenStart(int falses) {
         for (int starts = 0; starts <= council.everybody(); starts++) {
-            if (search.any(council, starts, falses, council.phases)) {
+            if (search.look(council, starts, falses, council.phases, true) != NONE) {
                 return starts;
             }
         }
@@ -1177,17 +1175,16 @@ public final class RulerWord {
         /** What the first LINE that agrees asks for; SAME, if none does. */
         private int actFor(int phase, int turn, int from, int to) {
             for (int line = 0; line < lines; line++) {
-                boolean fits = fits(line, 0, phase) && fits(line, 1, turn);
-                if (fits && fits(line, 2, from) && fits(line, 3, to)) {
-                    return part(line, ACT);
+                int place = line * PARTS;
+                boolean when = parts[place] == NONE || parts[place] == phase;
+                when = when && (parts[place + 1] == NONE || parts[place + 1] == turn);
+                boolean who = parts[place + 2] == NONE || parts[place + 2] == from;
+                who = who && (parts[place + 3] == NONE || parts[place + 3] == to);
+                if (when && who) {
+                    return parts[place + ACT];
                 }
             }
             return SAME;
-        }
-
-        private boolean fits(int line, int what, int number) {
-            int wanted = part(line, what);
-            return wanted == NONE || wanted == number;
         }
     }
 
@@ -1199,17 +1196,15 @@ public final class RulerWord {
         abstract int choose(Course course, int from, int to, int asTrue);
     }
 
-    /** By what was SAID (if it counts) and by the PLAN. */
+    /** By what was SAID in this Course and by the PLAN. */
     private static final class Planned extends Voice {
         private final Plan plan = new Plan();
-        private boolean byHand;
 
         int choose(Course course, int from, int to, int asTrue) {
-            int letter = byHand ? course.saidLetter(phase, turn, from, to) : NONE;
-            return letter != NONE ? letter : byPlan(course, from, to, asTrue);
-        }
-
-        private int byPlan(Course course, int from, int to, int asTrue) {
+            int letter = course.saidLetter(phase, turn, from, to);
+            if (letter != NONE) {
+                return letter;
+            }
             int act = plan.actFor(phase, turn, from, to);
             switch (act) {
                 case Plan.SAME:
@@ -1357,49 +1352,47 @@ public final class RulerWord {
             voice.phase = phase;
             voice.turn = rules.turnAt(gone);
             if (voice.turn == rules.rounds() - 1) {
-                send(rules, voice, rules.ruler(phase));
-                hearRuler(rules, phase);
+                int ruler = rules.ruler(phase);
+                send(rules, voice, ruler, ruler);
+                hearRuler(rules, phase, ruler);
             } else {
-                sendAll(rules, voice);
+                send(rules, voice, 0, rules.size - 1);
                 hearAll(rules, phase, voice.turn);
             }
             sentIn[phase] = voice.turn == 0 ? sent - before : sentIn[phase] + sent - before;
             gone++;
         }
 
-        private void sendAll(Council rules, Voice voice) {
+        private void send(Council rules, Voice voice, int first, int last) {
             int turn = voice.phase * TURNS + voice.turn;
             ones[turn] = 0;
             nothings[turn] = 0;
-            for (int from = 0; from < rules.size; from++) {
-                long row = send(rules, voice, from);
+            for (int from = first; from <= last; from++) {
+                long row = rowOf(rules, voice, from);
+                rows[turn * MOST_PEERS + from] = row;
                 ones[turn] += row & EACH;
                 nothings[turn] += row >>> 1 & EACH;
+                int reached = reachedBy(row, rules.size, from);
+                sent += reached;
+                sentByTrue += bit(falses, from) == 0 ? reached : 0;
             }
         }
 
-        private long send(Council rules, Voice voice, int from) {
+        private long rowOf(Council rules, Voice voice, int from) {
             int asTrue = trueLetter(rules, voice, from);
-            boolean lies = bit(falses, from) == 1;
-            long row = lies ? falseRow(rules.size, voice, from, asTrue) : asTrue * EACH;
-            int reached = reachedBy(row, rules.size, from);
-            sent += reached;
-            sentByTrue += lies ? 0 : reached;
-            rows[(voice.phase * TURNS + voice.turn) * MOST_PEERS + from] = row;
+            if (bit(falses, from) == 0) {
+                return asTrue * EACH;
+            }
+            long row = 0;
+            for (int to = 0; to < rules.size; to++) {
+                row |= (long) voice.choose(this, from, to, asTrue) << 4 * to;
+            }
             return row;
         }
 
         private int trueLetter(Council rules, Voice voice, int from) {
             boolean sendsHeld = voice.turn == 0 || rules.form == KINGS && voice.turn == 2;
             return sendsHeld ? bit(holds, from) : nibble(words[voice.phase], from);
-        }
-
-        private long falseRow(int size, Voice voice, int from, int asTrue) {
-            long row = 0;
-            for (int to = 0; to < size; to++) {
-                row |= (long) voice.choose(this, from, to, asTrue) << 4 * to;
-            }
-            return row;
         }
 
         private static int reachedBy(long row, int size, int from) {
@@ -1436,8 +1429,7 @@ public final class RulerWord {
             }
         }
 
-        private void hearRuler(Council rules, int phase) {
-            int ruler = rules.ruler(phase);
+        private void hearRuler(Council rules, int phase, int ruler) {
             int next = 0;
             took[phase] = 0;
             for (int i = 0; i < rules.size; i++) {
@@ -1548,14 +1540,16 @@ public final class RulerWord {
     }
 
     /**
-     * Looks for BROKEN numbers. All TRUE ones hear the same from TRUE ones, so what a receiver comes to depends only on
-     * how many 1 the FALSE ones send it: of each such outcome the least row of LETTERS is tried, not all rows.
+     * Looks for BROKEN numbers. What FALSE ones hold never reaches a TRUE one (all they tell it is FREE), so only TRUE
+     * ones are followed. These hear the same from TRUE ones: what a receiver comes to depends only on how many 1 the
+     * FALSE ones send it, and of each such outcome the least row of LETTERS is tried, not all rows.
      */
     private static final class Search {
         private static final int FALSE_AT_MOST = MOST_PEERS;
 
         private final Council rules = new Council();
         private final int[] receivers = new int[MOST_PEERS];
+        private final int[] freeAhead = new int[MOST_PHASES + 1];
         private final int[] outcomes = new int[MOST_PHASES * 2 * FALSE_AT_MOST];
         private final int[] lies = new int[MOST_PHASES * 2 * FALSE_AT_MOST];
         private int phases;
@@ -1566,23 +1560,14 @@ public final class RulerWord {
         private int found;
         private boolean anyWillDo;
 
-        /** The least BROKEN number, or NONE; only where at most 12 LETTERS are FREE. */
-        private int least(Council council, int starts, int liarBits, int upTo) {
-            anyWillDo = false;
-            return look(council, starts, liarBits, upTo);
-        }
-
-        private boolean any(Council council, int starts, int liarBits, int upTo) {
-            anyWillDo = true;
-            return look(council, starts, liarBits, upTo) != NONE;
-        }
-
-        private int look(Council council, int starts, int liarBits, int upTo) {
+        /** The least BROKEN number (any, if that will do), or NONE; only where at most 12 LETTERS are FREE. */
+        private int look(Council council, int starts, int liarBits, int upTo, boolean any) {
             rules.copy(council);
             phases = upTo;
             falses = liarBits;
             trues = rules.everybody() & ~falses;
             liars = Integer.bitCount(falses);
+            anyWillDo = any;
             many = 0;
             for (int i = 0; i < rules.size; i++) {
                 if (bit(trues, i) == 1) {
@@ -1590,8 +1575,11 @@ public final class RulerWord {
                     many++;
                 }
             }
+            for (int phase = 0; phase <= MOST_PHASES; phase++) {
+                freeAhead[phase] = rules.freeLetters(falses, phase);
+            }
             found = NONE;
-            explore(0, starts, 0L, 0);
+            explore(0, starts & trues, 0L, 0);
             return found;
         }
 
@@ -1605,82 +1593,73 @@ public final class RulerWord {
             } else if (rules.form == KINGS) {
                 tryOffers(phase, holds, suspects, number);
             } else {
-                tryViews(phase, holds, suspects, wordsOf(holds, rules.everybody()), number);
+                tryViews(phase, holds, suspects, trues & ~holds | holds << MOST_PEERS, number);
             }
         }
 
         private void judge(int holds, int number) {
-            boolean alike = (holds & trues) == 0 || (holds & trues) == trues;
+            boolean alike = holds == 0 || holds == trues;
             if (!alike && (found == NONE || number < found)) {
                 found = number;
             }
         }
 
-        /** Words that are sent, as bits of who sends 0 and, behind them, of who sends 1. */
-        private static int wordsOf(int ones, int senders) {
-            return senders & ~ones | (senders & ones) << MOST_PEERS;
-        }
-
-        private static int wordOf(int letter, int sender) {
-            return letter == NOTHING ? 0 : 1 << sender + letter * MOST_PEERS;
-        }
-
         private void tryOffers(int phase, int holds, long suspects, int number) {
             int place = phase * 2 * FALSE_AT_MOST;
-            int ones = Integer.bitCount(holds & trues);
+            int ones = Integer.bitCount(holds);
             int choices = 0;
             for (int more = 0; more <= liars; more++) {
                 int offer = rules.offer(rules.size - ones - more, ones + more);
                 choices = addChoice(place, choices, offer, more);
             }
-            int all = Integer.bitCount(holds);
-            int falseOffer = rules.offer(rules.size - all, all);
-            int base = rules.freeLetters(falses, phase);
             int picks = power(choices);
             for (int pick = 0; pick < picks && !isEnough(); pick++) {
-                int words = falseOffer == NOTHING ? 0 : falses << falseOffer * MOST_PEERS;
+                int words = 0;
                 int rest = pick;
                 int next = number;
                 for (int k = 0; k < many; k++) {
                     int choice = place + rest % choices;
                     rest /= choices;
                     words |= wordOf(outcomes[choice], receivers[k]);
-                    next |= bitsOf(lies[choice], base + k);
+                    next |= bitsOf(lies[choice], freeAhead[phase] + k);
                 }
                 tryViews(phase, holds, suspects, words, next);
             }
         }
 
+        /** One that sends 0 is a bit of the low nine, one that sends 1 of the next nine. */
+        private static int wordOf(int letter, int sender) {
+            return letter == NOTHING ? 0 : 1 << sender + letter * MOST_PEERS;
+        }
+
         private void tryViews(int phase, int holds, long suspects, int words, int number) {
             int place = (phase * 2 + 1) * FALSE_AT_MOST;
-            int whoZero = words & EVERYBODY;
-            int whoOne = words >>> MOST_PEERS;
+            int zeros = Integer.bitCount(words & EVERYBODY);
+            int ones = Integer.bitCount(words >>> MOST_PEERS);
             int choices = 0;
             for (int more = 0; more <= liars; more++) {
-                int zeros = Integer.bitCount(whoZero & trues) + liars - more;
-                int view = rules.view(zeros, Integer.bitCount(whoOne & trues) + more);
+                int view = rules.view(zeros + liars - more, ones + more);
                 choices = addChoice(place, choices, view, more);
             }
-            int falseView = rules.view(Integer.bitCount(whoZero), Integer.bitCount(whoOne));
-            int base = rules.freeLetters(falses, phase) + (rules.form == KINGS ? liars * many : 0);
+            int base = freeAhead[phase] + (rules.form == KINGS ? liars * many : 0);
             int picks = power(choices);
             for (int pick = 0; pick < picks && !isEnough(); pick++) {
-                int own = seen(holds, falses, falseView);
-                int firm = falseView >= Council.FIRM ? falses : 0;
+                int own = holds;
+                int firm = 0;
                 int rest = pick;
                 int next = number;
                 for (int k = 0; k < many; k++) {
                     int choice = place + rest % choices;
                     rest /= choices;
                     own = seen(own, 1 << receivers[k], outcomes[choice]);
-                    firm |= outcomes[choice] >= Council.FIRM ? 1 << receivers[k] : 0;
+                    firm |= outcomes[choice] / Council.FIRM << receivers[k];
                     next |= bitsOf(lies[choice], base + k);
                 }
                 tryRuler(phase, own, firm, suspects, next);
             }
         }
 
-        /** What is held when some PEERS come to a view. */
+        /** What is held when one comes to a view. */
         private static int seen(int holds, int who, int view) {
             int word = view % Council.FIRM;
             if (word == NOTHING) {
@@ -1689,37 +1668,36 @@ public final class RulerWord {
             return word == 1 ? holds | who : holds & ~who;
         }
 
+        /** Of a FALSE RULER's LETTERS those that would change nothing stay 0. */
         private void tryRuler(int phase, int own, int firm, long suspects, int number) {
             int ruler = rules.ruler(phase);
-            int wary = rules.skip ? (int) (suspects >>> ruler * MOST_PEERS) & EVERYBODY : 0;
-            int takers = rules.everybody() & ~firm & ~wary;
-            int asTrue = bit(own, ruler) == 1 ? rules.everybody() : 0;
-            if (bit(falses, ruler) == 0) {
-                obey(phase, own, firm, takers, asTrue, suspects, number);
-                return;
-            }
-            boolean rulesAgain = rules.skip && phase + rules.size < phases;
-            int open = trues & (rulesAgain ? takers | firm : takers);
-            int base = rules.freeLetters(falses, phase + 1) - many;
-            for (int pick = 0; pick < 1 << many && !isEnough(); pick++) {
-                int heard = spread(pick);
-                if ((heard & ~open) == 0) {
-                    obey(phase, own, firm, takers, heard | asTrue & falses, suspects, number | pick << base);
+            int shift = ruler * MOST_PEERS;
+            int wary = rules.skip ? (int) (suspects >>> shift) & EVERYBODY : 0;
+            int takers = trues & ~firm & ~wary;
+            int open = takers | heeded(phase, firm);
+            int fromTrue = bit(own, ruler) == 1 ? trues : 0;
+            int base = freeAhead[phase + 1] - many;
+            int picks = bit(falses, ruler) == 1 ? 1 << many : 1;
+            for (int pick = 0; pick < picks && !isEnough(); pick++) {
+                int fromFalse = spread(pick);
+                if ((fromFalse & ~open) == 0) {
+                    int heard = fromTrue | fromFalse;
+                    int holds = own & ~takers | heard & takers;
+                    long crossed = firm & (heard ^ own);
+                    explore(phase + 1, holds, suspects | crossed << shift, number | pick << base);
                 }
             }
         }
 
-        private void obey(int phase, int own, int firm, int takers, int heard, long suspects, int number) {
-            int ruler = rules.ruler(phase);
-            int holds = own & ~takers | heard & takers;
-            long crossed = firm & (heard ^ own) & ~(1 << ruler);
-            explore(phase + 1, holds, suspects | crossed << ruler * MOST_PEERS, number);
+        /** FIRM ones whose SUSPICION will count: only with skip, and if this RULER rules again. */
+        private int heeded(int phase, int firm) {
+            return rules.skip && phase + rules.size < phases ? firm : 0;
         }
 
         private int spread(int pick) {
             int who = 0;
             for (int k = 0; k < many; k++) {
-                who |= bit(pick, k) << receivers[k];
+                who |= (pick >>> k & 1) << receivers[k];
             }
             return who;
         }

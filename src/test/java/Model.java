@@ -299,6 +299,7 @@ final class Model {
 
     /** Thrown where a text's FAULT is. */
     static final class Fault extends RuntimeException {
+        private static final long serialVersionUID = 1L;
         final int at;
 
         Fault(int at) {
