@@ -30,7 +30,7 @@ public final class RulerWord {
     private final Course trial = new Course();
     private final Acts acts = new Acts();
     private final Search search = new Search();
-    private final StringBuilder text = new StringBuilder();
+    private final Tape text = new Tape();
     private final int[] refused = new int[5];
     private boolean convened;
     private boolean imaged;
@@ -356,7 +356,7 @@ public final class RulerWord {
         if (number < 0) {
             return number;
         }
-        text.setLength(0);
+        text.length = 0;
         for (int phase = 0; phase < council.phases; phase++) {
             for (int turn = 0; turn < council.rounds(); turn++) {
                 writeBrokenRound(phase, turn, number);
@@ -482,15 +482,15 @@ public final class RulerWord {
             return NONE;
         }
         int ruler = council.ruler(phase);
-        text.setLength(0);
-        text.append("phase ").append(phase).append(" ruler ").append(ruler);
+        text.length = 0;
+        text.writeNumber("phase ", phase);
+        text.writeNumber(" ruler ", ruler);
         for (int i = 0; i < council.size; i++) {
-            text.append(", ");
-            text.append(bit(now.falses, i) == 1 ? "x" : "");
-            text.append(i).append('=').append(bit(now.behind[phase], i));
-            text.append(bit(now.firm[phase], i) == 1 ? "!" : "");
-            text.append(bit(now.took[phase], i) == 1 ? "<" : "");
-            text.append(bit(now.suspectedBy(i), ruler) == 1 ? "?" : "");
+            text.writeNumber(bit(now.falses, i) == 1 ? ", x" : ", ", i);
+            text.writeNumber("=", bit(now.behind[phase], i));
+            text.write(bit(now.firm[phase], i) == 1 ? "!" : "");
+            text.write(bit(now.took[phase], i) == 1 ? "<" : "");
+            text.write(bit(now.suspectedBy(i), ruler) == 1 ? "?" : "");
         }
         return byteOfText(k);
     }
@@ -669,10 +669,11 @@ public final class RulerWord {
             }
             for (int to = 0; to < council.size; to++) {
                 if (bit(now.falses, to) == 0) {
-                    text.append(place == 0 ? "" : ";");
-                    text.append("phase ").append(phase).append(" round ").append(turn);
-                    text.append(" from ").append(from).append(" to ").append(to);
-                    text.append(' ').append(bit(number, place));
+                    text.writeNumber(place == 0 ? "phase " : ";phase ", phase);
+                    text.writeNumber(" round ", turn);
+                    text.writeNumber(" from ", from);
+                    text.writeNumber(" to ", to);
+                    text.writeNumber(" ", bit(number, place));
                     place++;
                 }
             }
@@ -686,9 +687,9 @@ public final class RulerWord {
 
     private int byteOfText(int k) {
         if (k == NONE) {
-            return text.length();
+            return text.length;
         }
-        return k < 0 || k >= text.length() ? NONE : text.charAt(k);
+        return k < 0 || k >= text.length ? NONE : text.bytes[k];
     }
 
     private int ruledIn(int phase, int ruler, int what) {
@@ -770,7 +771,7 @@ public final class RulerWord {
         return which;
     }
 
-    /** The bytes that were fed, and the part of them that is being read. */
+    /** Bytes that were fed or written, and the part of them that is being read. */
     private static final class Tape {
         private static final int FULL = 500;
         private static final int END = 0;
@@ -788,11 +789,28 @@ public final class RulerWord {
         private void put(int four) {
             for (int shift = 24; shift >= 0; shift -= 8) {
                 int next = four >>> shift & 255;
-                if (next != 0 && length < bytes.length) {
-                    bytes[length] = next;
-                    length++;
+                if (next != 0) {
+                    add(next);
                 }
             }
+        }
+
+        private void add(int sign) {
+            if (length < bytes.length) {
+                bytes[length] = sign;
+                length++;
+            }
+        }
+
+        private void write(String words) {
+            for (int i = 0; i < words.length(); i++) {
+                add(words.charAt(i));
+            }
+        }
+
+        private void writeNumber(String words, int digit) {
+            write(words);
+            add('0' + digit);
         }
 
         private void firstPart() {
