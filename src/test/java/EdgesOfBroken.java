@@ -31,6 +31,13 @@ final class EdgesOfBroken {
         "queen;size 9;bound 2;phases 1;false 8;starts 111100000",
         "queen;size 9;bound 1;phases 1;starts 111100000",
         "king;size 3;bound 3;phases 2;starts 011",
+        "king;size 3;bound 0;phases 1;false 0;starts 000",
+        "queen;size 3;bound 1;phases 4;false 2;starts 110;skip",
+        "king;size 5;bound 1;phases 1;false 13;starts 10100",
+        "king;size 5;bound 2;phases 1;false 34;starts 10000",
+        "queen;size 5;bound 1;phases 1;false 03;starts 00000",
+        "queen;size 5;bound 0;phases 1;false 12;starts 10000",
+        "queen;size 6;bound 1;phases 1;false 235;starts 110010",
         "king;size 7;bound 1;phases 1;false 123456;starts 1010011",
     };
     private static final String[] NOT_ASKED = {"king;size 7;phases 1;false 012345", "king;size 4;phases 2;false 1", "queen;size 9;phases 1;false 01",
@@ -216,6 +223,11 @@ final class EdgesOfBroken {
             neededByHand("queen;size 4;bound 1;false 01;starts 1101"));
         words.is("15 free with 1 phase", Due.of("king;size 6;phases 1;false 0").needed(), NONE);
         words.is("whatever P is", Due.of("queen;size 5;phases 6;false 0;starts 01100").needed(), 2);
+        RulerWord x = Due.of("queen;size 5;phases 2;false 0;starts 01100");
+        x.run();
+        words.is("from the starts, behind all", x.needed(), 2);
+        x = Due.of("queen;size 5;phases 2;false 0;starts 00000");
+        words.is("from what is held then it would be another one", x.needed(), 1);
     }
 
     private static int neededByHand(String council) {
@@ -275,10 +287,17 @@ final class EdgesOfBroken {
         for (String council : councils) {
             words.is(council, Due.of(council).weakest(), weakestByHand(council));
         }
-        RulerWord x = Due.of("king;size 3;bound 0;phases 1;starts 010");
-        int ahead = x.weakest();
-        x.run();
-        words.is("from the starts, also behind all", x.weakest(), ahead);
+        int others = 0;
+        for (String council : councils) {
+            RulerWord x = Due.of(council);
+            int ahead = x.weakest();
+            x.run();
+            words.is(council + ", behind all: from the starts", x.weakest(), ahead);
+            RulerWord y = Due.of(council);
+            y.starts(Due.holds(x));
+            others += y.weakest() != ahead ? 1 : 0;
+        }
+        words.is("with what is held then it would be another one", others > 0, true);
         words.says("one with which nobody would be TRUE is not asked.");
         words.is("2 alone is true", Due.of("king;size 3;bound 3;phases 1;starts 001;false 01").weakest(), NONE);
         words.is("8 alone is true, and more than 12 are free", Due.of("king;size 9;phases 6;false 01234567").weakest(), NONE);

@@ -485,6 +485,12 @@ final class EdgesOfStates {
         RulerWord x = Due.of(FROZEN);
         x.run();
         words.is("nobody ever took one: the first", x.most(4), 0);
+        x = Due.of("queen;size 5;bound 1;phases 2;starts 11111;false 34",
+            "phase 0 round 0 to 3 2;phase 0 round 0 to 4 2;phase 1 round 0 to 2 2;1", 1);
+        x.run();
+        words.is("3 and 4, both false, took it in phase 0", x.told(3, 0, 7) + x.told(4, 0, 7), 2);
+        words.is("2 alone took it in phase 1", x.told(2, 1, 7) * 10 + x.told(3, 1, 7), 10);
+        words.is("true ones count", x.most(4), 1);
         words.says("NONE: no COUNCIL, no such what.");
         for (int k = 0; k <= 5; k++) {
             words.is("no council: most(" + k + ")", new RulerWord().most(k), NONE);

@@ -678,6 +678,11 @@ final class EdgesOfTexts {
         x.falseOnes(6);
         words.is("other starts", x.rule(4), 9);
         words.is("other false ones", x.rule(5), 6);
+        x = Due.of("king;size 4;starts 0111;false 3");
+        x.run();
+        words.is("all hold 1 now", Due.holds(x), 15);
+        words.is("the starts stay", x.rule(4), 14);
+        words.is("the false ones stay", x.rule(5), 8);
         words.says("7 the PHASE that the next ROUND is of, 8 that ROUND (P, 0: it is over), 9 ROUNDS of a PHASE, ");
         for (String form : new String[] {"king", "queen"}) {
             int rounds = form.equals("king") ? 3 : 2;
