@@ -320,7 +320,8 @@ public final class RulerWord {
         if (!isAsked(now.falses)) {
             return NOT_ASKED;
         }
-        return search.look(council, now.starts, now.falses, council.phases, false);
+        search.prepare(council, now.falses, council.phases);
+        return search.least(now.starts);
     }
 
     public int brokenStarts(int what) {
@@ -378,9 +379,8 @@ public final class RulerWord {
             if (!isAsked(falses)) {
                 return NOT_ASKED;
             }
-            if (search.look(council, now.starts, falses, council.phases, true) != NONE) {
-                weakest = i;
-            }
+            search.prepare(council, falses, council.phases);
+            weakest = search.isBroken(now.starts) ? i : weakest;
         }
         return weakest;
     }
@@ -416,7 +416,8 @@ public final class RulerWord {
             if (council.freeLetters(now.falses, phases) > MOST_FREE) {
                 return NONE;
             }
-            if (search.look(council, now.starts, now.falses, phases, true) == NONE) {
+            search.prepare(council, now.falses, phases);
+            if (!search.isBroken(now.starts)) {
                 return phases;
             }
         }
@@ -645,15 +646,17 @@ public final class RulerWord {
 
     private int countBrokenStarts(int falses) {
         int many = 0;
+        search.prepare(council, falses, council.phases);
         for (int starts = 0; starts <= council.everybody(); starts++) {
-            many += search.look(council, starts, falses, council.phases, true) != NONE ? 1 : 0;
+            many += search.isBroken(starts) ? 1 : 0;
         }
         return many;
     }
 
     private int leastBrokenStart(int falses) {
+        search.prepare(council, falses, council.phases);
         for (int starts = 0; starts <= council.everybody(); starts++) {
-            if (search.look(council, starts, falses, council.phases, true) != NONE) {
+            if (search.isBroken(starts)) {
                 return starts;
             }
         }
@@ -1560,7 +1563,8 @@ public final class RulerWord {
     /**
      * Looks for BROKEN numbers. What FALSE ones hold never reaches a TRUE one (all they tell it is FREE), so only TRUE
      * ones are followed. These hear the same from TRUE ones: what a receiver comes to depends only on how many 1 the
-     * FALSE ones send it, and of each such outcome the least row of LETTERS is tried, not all rows.
+     * FALSE ones send it, and of each such outcome the least row of LETTERS is tried, not all rows. What is held ahead of
+     * a PHASE from which nothing breaks is kept: the same is met again and again, from other STARTS, too.
      */
     private static final class Search {
         private static final int FALSE_AT_MOST = MOST_PEERS;
@@ -1570,6 +1574,8 @@ public final class RulerWord {
         private final int[] freeAhead = new int[MOST_PHASES + 1];
         private final int[] outcomes = new int[MOST_PHASES * 2 * FALSE_AT_MOST];
         private final int[] lies = new int[MOST_PHASES * 2 * FALSE_AT_MOST];
+        private final long[] sound = new long[MOST_PHASES << MOST_PEERS - 6];
+        private int breaks;
         private int phases;
         private int falses;
         private int trues;
@@ -1578,14 +1584,13 @@ public final class RulerWord {
         private int found;
         private boolean anyWillDo;
 
-        /** The least BROKEN number (any, if that will do), or NONE; only where at most 12 LETTERS are FREE. */
-        private int look(Council council, int starts, int liarBits, int upTo, boolean any) {
+        /** For what is asked next; only where at most 12 LETTERS are FREE. */
+        private void prepare(Council council, int liarBits, int upTo) {
             rules.copy(council);
             phases = upTo;
             falses = liarBits;
             trues = rules.everybody() & ~falses;
             liars = Integer.bitCount(falses);
-            anyWillDo = any;
             many = 0;
             for (int i = 0; i < rules.size; i++) {
                 if (bit(trues, i) == 1) {
@@ -1596,9 +1601,24 @@ public final class RulerWord {
             for (int phase = 0; phase <= MOST_PHASES; phase++) {
                 freeAhead[phase] = rules.freeLetters(falses, phase);
             }
+            for (int i = 0; i < sound.length; i++) {
+                sound[i] = 0;
+            }
+        }
+
+        /** The least BROKEN number, or NONE. */
+        private int least(int starts) {
+            anyWillDo = false;
             found = NONE;
             explore(0, starts & trues, 0L, 0);
             return found;
+        }
+
+        private boolean isBroken(int starts) {
+            anyWillDo = true;
+            found = NONE;
+            explore(0, starts & trues, 0L, 0);
+            return found != NONE;
         }
 
         private boolean isEnough() {
@@ -1608,16 +1628,30 @@ public final class RulerWord {
         private void explore(int phase, int holds, long suspects, int number) {
             if (phase >= phases || phase >= MOST_PHASES) {
                 judge(holds, number);
-            } else if (rules.form == KINGS) {
+                return;
+            }
+            int state = phase << MOST_PEERS | holds;
+            if ((sound[state >>> 6] >>> state & 1) == 1) {
+                return;
+            }
+            int before = breaks;
+            if (rules.form == KINGS) {
                 tryOffers(phase, holds, suspects, number);
             } else {
                 tryViews(phase, holds, suspects, trues & ~holds | holds << MOST_PEERS, number);
             }
+            // Where SUSPICION counts, the same that is held may break later, with other SUSPECTS.
+            if (breaks == before && !doesSuspicionCount(0)) {
+                sound[state >>> 6] |= 1L << state;
+            }
         }
 
         private void judge(int holds, int number) {
-            boolean alike = holds == 0 || holds == trues;
-            if (!alike && (found == NONE || number < found)) {
+            if (holds == 0 || holds == trues) {
+                return;
+            }
+            breaks++;
+            if (found == NONE || number < found) {
                 found = number;
             }
         }
@@ -1692,7 +1726,7 @@ public final class RulerWord {
             int shift = ruler * MOST_PEERS;
             int wary = rules.skip ? (int) (suspects >>> shift) & EVERYBODY : 0;
             int takers = trues & ~firm & ~wary;
-            int open = takers | heeded(phase, firm);
+            int open = takers | (doesSuspicionCount(phase) ? firm : 0);
             int fromTrue = bit(own, ruler) == 1 ? trues : 0;
             int base = freeAhead[phase + 1] - many;
             int picks = bit(falses, ruler) == 1 ? 1 << many : 1;
@@ -1707,9 +1741,9 @@ public final class RulerWord {
             }
         }
 
-        /** FIRM ones whose SUSPICION will count: only with skip, and if this RULER rules again. */
-        private int heeded(int phase, int firm) {
-            return rules.skip && phase + rules.size < phases ? firm : 0;
+        /** Only with skip, and if the RULER of this PHASE rules again. */
+        private boolean doesSuspicionCount(int phase) {
+            return rules.skip && phase + rules.size < phases;
         }
 
         private int spread(int pick) {
