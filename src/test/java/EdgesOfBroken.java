@@ -162,6 +162,11 @@ final class EdgesOfBroken {
                 words.is(council + ": the least", x.brokenStarts(1), least);
             }
         }
+        for (int rest = 0; rest < 2 * 3 * 3 * 3 * 30; rest++) {
+            int n = 3 + rest / 2 % 3;
+            startsOneByOne((rest % 2 == 0 ? "king;size " : "queen;size ") + n + ";bound " + rest / 6 % 3 + ";phases "
+                + (1 + rest / 18 % 3), rest / 54 % ((1 << n) - 1));
+        }
         RulerWord x = Due.of("king;size 9;bound 4;phases 1");
         words.is("none of 512", x.brokenStarts(0), 0);
         x = Due.of("king;size 3;bound 3;phases 1");
@@ -188,6 +193,23 @@ final class EdgesOfBroken {
         words.is("N 5", Due.of("queen;size 5;phases 1").canBreak(0), 0);
         words.is("N 6", Due.of("queen;size 6;phases 1").canBreak(0), -2);
         words.is("N 9", Due.of("queen;size 9;phases 1").canBreak(1), -2);
+    }
+
+    /** As many are counted as are broken when each is told and asked for itself. */
+    private void startsOneByOne(String council, int falses) {
+        RulerWord x = Due.of(council);
+        x.falseOnes(falses);
+        int many = 0;
+        int least = NONE;
+        for (int starts = (1 << x.rule(1)) - 1; starts >= 0 && x.free() <= 12; starts--) {
+            x.starts(starts);
+            if (x.broken() != NONE) {
+                many++;
+                least = starts;
+            }
+        }
+        words.is(council + ": how many, false " + falses, x.brokenStarts(0), x.free() <= 12 ? many : -2);
+        words.is(council + ": the least, false " + falses, x.brokenStarts(1), x.free() <= 12 ? least : -2);
     }
 
     private static boolean anyStarts(String council, int falses) {
